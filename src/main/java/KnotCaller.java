@@ -46,6 +46,7 @@ public final class KnotCaller {
     private static final int MOST_VILLAGES = 8;
     private static final int MOST_RIVALS = 6;
     private static final int WAYS = 8;
+    private static final int BEYOND_ALL_SUMS = MOST_VILLAGES * WAYS;
     private static final int LONGEST_SIDE = 400;
     private static final int LARGEST_UNIT = 40;
     private static final int LONGEST_MADE = 60;
@@ -1164,7 +1165,7 @@ public final class KnotCaller {
         private void splitSet(int set, int root) {
             int rest = set - (1 << root);
             int next = 1 << firstOf(rest);
-            leastSum[set] = Integer.MAX_VALUE;
+            leastSum[set] = BEYOND_ALL_SUMS;
             leastTrees[set] = 0;
             for (int branch = next; branch <= rest; branch++) {
                 if ((branch & rest) == branch && (branch & next) != 0) {
