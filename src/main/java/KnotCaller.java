@@ -785,13 +785,14 @@ public final class KnotCaller {
 
         private boolean isMendedBy(int chant, int step, int change) {
             Step so = stepOf(chant, step);
-            int n = so.n + change;
-            if (so.kind != SO || n < 1 || n > MOST_SO) {
+            if (so.kind != SO || !isWithin(so.n + change, 1, MOST_SO)) {
                 return false;
             }
+            int was = so.n;
+            int n = was + change;
             so.n = n;
             boolean closing = measured(chant) == width;
-            so.n = n - change;
+            so.n = was;
             if (closing) {
                 mendStep = step;
                 mendN = n;

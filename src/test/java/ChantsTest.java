@@ -355,7 +355,7 @@ public final class ChantsTest {
         int less = sing(x, SO, 1, 1, TURN, 0, 0, SO, 1, 1, AGAIN, 1, 0, SO, 6, 2);
         due(x.mend(less, 0), 4);
         due(x.mend(less, 1), 4);
-        // by one at step 2 or by two at step 0: the lesser change is the one
+        // step 0 counts twice, so a change by two is enough; the last step can't be made so short
         int lesser = sing(x, SO, 4, 1, SO, 2, 1, AGAIN, 1, 0, SO, 2, 2);
         due(x.length(lesser), 14);
         due(x.mend(lesser, 0), 0);
