@@ -1,11 +1,11 @@
 /** Promises 10 to 21: hands, wool and rows. */
 public final class CarpetTest {
-    private static final int SO = 0;
-    private static final int UPTO = 1;
-    private static final int TURN = 2;
-    private static final int AGAIN = 3;
-    private static final int SING = 4;
-    private static final int LIKE = 5;
+    private static final int SO = Given.SO;
+    private static final int UPTO = Given.UPTO;
+    private static final int TURN = Given.TURN;
+    private static final int AGAIN = Given.AGAIN;
+    private static final int SING = Given.SING;
+    private static final int LIKE = Given.LIKE;
 
     public static void main(String[] args) {
         hand();
@@ -37,24 +37,15 @@ public final class CarpetTest {
     }
 
     private static KnotCaller wide(int w) {
-        return new KnotCaller(w - 4);
+        return Given.wide(w);
     }
 
     private static KnotCaller wideWithWool(int w) {
-        KnotCaller x = wide(w);
-        for (int colour = 0; colour < 8; colour++) {
-            x.dye(colour, colour, 1000);
-            x.dye(colour, colour, 1000);
-        }
-        return x;
+        return Given.wideWithWool(w);
     }
 
     private static int sing(KnotCaller x, int... steps) {
-        int number = x.chant();
-        for (int i = 0; i < steps.length; i += 3) {
-            due(x.step(steps[i], steps[i + 1], steps[i + 2]), i / 3);
-        }
-        return number;
+        return Given.sing(x, steps);
     }
 
     // Promise 10

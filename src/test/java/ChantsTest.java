@@ -1,11 +1,11 @@
 /** Promises 1 to 9: a new object, and the chants. */
 public final class ChantsTest {
-    private static final int SO = 0;
-    private static final int UPTO = 1;
-    private static final int TURN = 2;
-    private static final int AGAIN = 3;
-    private static final int SING = 4;
-    private static final int LIKE = 5;
+    private static final int SO = Given.SO;
+    private static final int UPTO = Given.UPTO;
+    private static final int TURN = Given.TURN;
+    private static final int AGAIN = Given.AGAIN;
+    private static final int SING = Given.SING;
+    private static final int LIKE = Given.LIKE;
 
     public static void main(String[] args) {
         newObject();
@@ -32,26 +32,16 @@ public final class ChantsTest {
         Checks.due(got, want);
     }
 
-    /** A carpet W knots wide. */
     private static KnotCaller wide(int w) {
-        return new KnotCaller(w - 4);
+        return Given.wide(w);
     }
 
-    /** Adds a chant of steps told three numbers each; answers its number. */
     private static int sing(KnotCaller x, int... steps) {
-        int number = x.chant();
-        for (int i = 0; i < steps.length; i += 3) {
-            due(x.step(steps[i], steps[i + 1], steps[i + 2]), i / 3);
-        }
-        return number;
+        return Given.sing(x, steps);
     }
 
     private static String colours(KnotCaller x, int chant) {
-        StringBuilder text = new StringBuilder();
-        for (int i = 0; i < x.length(chant); i++) {
-            text.append(x.colour(chant, i));
-        }
-        return text.toString();
+        return Given.colours(x, chant);
     }
 
     // Promise 1

@@ -13,6 +13,13 @@ final class Checks {
         }
     }
 
+    static void due(String got, String want) {
+        asked++;
+        if (!got.equals(want)) {
+            report("answered " + got + ", due is " + want);
+        }
+    }
+
     static void fail(String what) {
         asked++;
         report(what);
@@ -27,11 +34,12 @@ final class Checks {
         }
     }
 
-    static void due(String got, String want) {
-        asked++;
-        if (!got.equals(want)) {
-            report("answered " + got + ", due is " + want);
-        }
+    static int asked() {
+        return asked;
+    }
+
+    static int wrong() {
+        return wrong;
     }
 
     static void end() {
@@ -44,7 +52,7 @@ final class Checks {
     private static void report(String what) {
         wrong++;
         for (StackTraceElement at : new Throwable().getStackTrace()) {
-            if (!at.getClassName().equals("Checks")) {
+            if (!at.getClassName().equals("Checks") && !at.getMethodName().equals("due")) {
                 System.out.println(at.getFileName() + ":" + at.getLineNumber() + " "
                         + at.getMethodName() + ": " + what);
                 return;

@@ -1,5 +1,3 @@
-import java.lang.reflect.InvocationTargetException;
-import java.lang.reflect.Method;
 import java.util.Random;
 
 /**
@@ -34,19 +32,19 @@ public final class ModelTest {
         model = new Model(width);
     }
 
-    public static void main(String[] args) throws Exception {
+    public static void main(String[] args) {
         for (int run = 0; run < RUNS; run++) {
             new ModelTest(run).go();
         }
         Checks.end();
     }
 
-    private void go() throws Exception {
+    private void go() {
         for (int i = 0; i < CALLS; i++) {
             String name = someName();
             Object[] args = someArguments(name);
-            String got = answer(x, name, args);
-            String want = answer(model, name, args);
+            String got = Calls.answer(x, name, args);
+            String want = Calls.answer(model, name, args);
             Checks.due(got, want);
             if (!got.equals(want)) {
                 System.out.println("run " + run + ", call " + i + ": " + name + java.util.Arrays.toString(args));
@@ -72,17 +70,6 @@ public final class ModelTest {
 
     private static int times(String often) {
         return Integer.parseInt(often.substring(often.indexOf(' ') + 1));
-    }
-
-    private static String answer(Object object, String name, Object[] args) throws Exception {
-        Class<?>[] types = new Class<?>[args.length];
-        java.util.Arrays.fill(types, int.class);
-        Method method = object.getClass().getMethod(name, types);
-        try {
-            return method.invoke(object, args).toString();
-        } catch (InvocationTargetException e) {
-            return "throws." + e.getCause().getClass().getSimpleName();
-        }
     }
 
     private Object[] someArguments(String name) {

@@ -28,15 +28,7 @@ public final class ShelvesTest {
     }
 
     private static String row(KnotCaller x, int d) {
-        StringBuilder text = new StringBuilder();
-        for (int i = 0; i < 70; i++) {
-            String got = Checks.element(x, d, i);
-            if (got.equals(NO_ELEMENT)) {
-                break;
-            }
-            text.append(got).append(' ');
-        }
-        return text.toString().trim();
+        return Given.elements(x, d);
     }
 
     /** Five knots wide; chant 0 has a step of each kind, chant 1 closes, and two rows are tied. */
