@@ -389,6 +389,18 @@ final class BorderEdges {
         due(withVillages(0, 1, 3, 7, 15, 31).rivals(), 1);
     }
 
+    @Says("RIVALS: how many such trees (of the same sum) there are, for 6 VILLAGES at most")
+    static void p28_treesOfLargeSums() {
+        KnotCaller x = withVillages(0, 15, 51, 60, 85, 90);
+        // all are 4 apart
+        due(x.tree(), 20);
+        due(x.rivals(), 1296);
+        KnotCaller y = withVillages(0, 255, 15, 240, 51, 204);
+        // three pairs are 8 apart, all others 4: the trees of an octahedron
+        due(y.tree(), 20);
+        due(y.rivals(), 384);
+    }
+
     // ---- 29: count
 
     @Says("-1 for others")

@@ -475,6 +475,17 @@ final class CarpetEdges {
         }
     }
 
+    @Says("the first STEP of the row's own CHANT at whose end there are more knots than its place")
+    static void p14_endsOfTheSungStepsDoNotCount() {
+        KnotCaller x = Given.wideWithWool(10);
+        int sung = sing(x, SO, 5, 1, SO, 1, 2, SO, 1, 3);
+        x.tie(sing(x, SO, 3, 4, SING, sung, 0));
+        due(x.look(0, 2, 3), 0);
+        due(x.look(0, 3, 3), 1);
+        due(x.look(0, 4, 3), 1);
+        due(x.look(0, 9, 3), 1);
+    }
+
     @Says("FAULTS: a knot may be told to be of another COLOUR than was called.")
     static void p14_aFaultAndNoMoreAFault() {
         KnotCaller x = tied(4, 1);
@@ -649,6 +660,17 @@ final class CarpetEdges {
     }
 
     @Says("one more for each time that the COLOUR changes within its knots of the row")
+    static void p17_eachHandHasItsOwnChangesAlone() {
+        KnotCaller x = Given.wideWithWool(10);
+        x.hand(0, 5, 5);
+        x.hand(1, 5, 5);
+        x.tie(sing(x, SO, 4, 1, SO, 2, 2, SO, 4, 1));
+        due(x.minutes(0), 2);
+        x.tie(sing(x, SO, 1, 1, SO, 1, 2, SO, 7, 1, SO, 1, 2));
+        due(x.minutes(1), 3);
+    }
+
+    @Says("one more for each time that the COLOUR changes within its knots of the row")
     static void p17_aChangeWithEachKnot() {
         KnotCaller x = Given.wideWithWool(40);
         x.hand(0, 40, 1);
@@ -702,6 +724,24 @@ final class CarpetEdges {
         x.tie(chant);
         due(x.shifts(0), 2);
         due(x.shifts(1), 2);
+    }
+
+    @Says("COLOURS 0 .. 7")
+    static void p18_ofTheFirstAndTheLastColour() {
+        KnotCaller x = Given.wide(4);
+        x.dye(0, 0, 1);
+        x.dye(0, 1, 1);
+        x.dye(7, 8, 1);
+        x.dye(7, 9, 1);
+        x.tie(sing(x, SO, 2, 0, SO, 2, 7));
+        due(x.shifts(0), 2);
+        due(x.shifts(1), 2);
+        KnotCaller y = Given.wide(4);
+        y.dye(0, 0, 1);
+        y.dye(0, 9, 3);
+        y.tie(sing(y, UPTO, 0, 0));
+        due(y.shifts(0), 1);
+        due(y.shifts(1), 1);
     }
 
     @Says("two knots tied one behind the other of one COLOUR (whatever others are between)")

@@ -547,6 +547,23 @@ final class ChantEdges {
         due(x.length(sing(x, SING, all, 0)), -6);
     }
 
+    /** Chants that sing one another, each the one ahead of it, with the first one's steps: the twelfth's number. */
+    private static int twelveWithinOneAnother(KnotCaller x, int... steps) {
+        int latest = sing(x, steps);
+        for (int i = 1; i < 12; i++) {
+            latest = sing(x, SING, latest, 0);
+        }
+        return latest;
+    }
+
+    @Says("SING k: the knots of CHANT k (an earlier one)")
+    static void p04_twelveChantsWithinOneAnother() {
+        KnotCaller x = Given.wide(10);
+        int latest = twelveWithinOneAnother(x, SO, 3, 1, UPTO, 0, 2);
+        due(latest, 11);
+        due(x.length(latest), 10);
+    }
+
     // ---- 5: colour
 
     @Says("-1; -6; -4: it has no such place.")
@@ -604,6 +621,43 @@ final class ChantEdges {
         due(x.colour(wild, 999), -6);
         due(x.colour(wild, -1), -6);
         due(x.colour(wild, 1001), -6);
+    }
+
+    @Says("SING k: the knots of CHANT k (an earlier one)")
+    static void p05_twelveChantsWithinOneAnother() {
+        KnotCaller x = Given.wide(10);
+        Checks.due(Given.colours(x, twelveWithinOneAnother(x, SO, 3, 1, UPTO, 0, 2)), "1112222222");
+    }
+
+    @Says("knots of COLOUR c till there are WIDTH (none, if there are)")
+    static void p05_whatComesBehindAnUpto() {
+        KnotCaller x = Given.wide(4);
+        Checks.due(Given.colours(x, sing(x, SO, 3, 1, UPTO, 0, 2, SO, 2, 3)), "111233");
+        Checks.due(Given.colours(x, sing(x, SO, 4, 1, UPTO, 0, 2, SO, 2, 3)), "111133");
+        Checks.due(Given.colours(x, sing(x, SO, 5, 1, UPTO, 0, 2, SO, 2, 3)), "1111133");
+    }
+
+    @Says("up to WIDTH (none, if there are so many)")
+    static void p05_whatComesBehindALike() {
+        KnotCaller x = Given.wideWithWool(4);
+        x.tie(sing(x, SO, 2, 6, SO, 2, 7));
+        Checks.due(Given.colours(x, sing(x, SO, 3, 1, LIKE, 1, 0, SO, 2, 3)), "111733");
+        Checks.due(Given.colours(x, sing(x, SO, 4, 1, LIKE, 1, 0, SO, 2, 3)), "111133");
+        Checks.due(Given.colours(x, sing(x, SO, 5, 1, LIKE, 1, 0, SO, 2, 3)), "1111133");
+        Checks.due(Given.colours(x, sing(x, SO, 3, 1, LIKE, 2, 0, SO, 2, 3)), "111033");
+    }
+
+    @Says("by SING with the WIDTH of the one that sings less the knots that has so far")
+    static void p05_whatComesBehindASungUpto() {
+        KnotCaller x = Given.wide(4);
+        int upto = sing(x, UPTO, 0, 2);
+        Checks.due(Given.colours(x, sing(x, SO, 3, 1, SING, upto, 0, SO, 2, 3)), "111233");
+        Checks.due(Given.colours(x, sing(x, SO, 4, 1, SING, upto, 0, SO, 2, 3)), "111133");
+        Checks.due(Given.colours(x, sing(x, SO, 5, 1, SING, upto, 0, SO, 2, 3)), "1111133");
+        int inner = sing(x, SO, 1, 5, SING, upto, 0);
+        Checks.due(Given.colours(x, sing(x, SO, 2, 1, SING, inner, 0, SO, 2, 3)), "115233");
+        Checks.due(Given.colours(x, sing(x, SO, 3, 1, SING, inner, 0, SO, 2, 3)), "111533");
+        Checks.due(Given.colours(x, sing(x, SO, 4, 1, SING, inner, 0, SO, 2, 3)), "1111533");
     }
 
     @Says("its places count from 0 (where it begins)")
@@ -966,6 +1020,26 @@ final class ChantEdges {
         for (int step = 0; step < 6; step++) {
             due(x.told(1, step, 3), want[step]);
         }
+    }
+
+    @Says("3 how many knots there are at its end")
+    static void p09_noKnotsInAllAreNotWild() {
+        KnotCaller x = Given.wide(10);
+        sing(x, TURN, 0, 0, AGAIN, 9, 0);
+        due(x.told(0, 0, 3), 0);
+        due(x.told(0, 1, 3), 0);
+    }
+
+    @Says("3 how many knots there are at its end")
+    static void p09_endsOfItsOwnStepsNotOfTheSungOnes() {
+        KnotCaller x = Given.wide(10);
+        int sung = sing(x, SO, 3, 1, SO, 4, 1, SO, 1, 1);
+        int all = sing(x, SO, 2, 1, SING, sung, 0, SING, sung, 0);
+        due(x.told(all, 0, 3), 2);
+        due(x.told(all, 1, 3), 10);
+        due(x.told(all, 2, 3), 18);
+        int first = sing(x, SING, sung, 0);
+        due(x.told(first, 0, 3), 8);
     }
 
     @Says("-1; -6 (of 3: the CHANT is WILD).")
