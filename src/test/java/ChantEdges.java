@@ -255,6 +255,20 @@ final class ChantEdges {
         due(x.step(LIKE, 1, LEAST), 9);
     }
 
+    @Says("else any): its place.")
+    static void p03_numbersThatAreAnyCallNothing() {
+        KnotCaller x = Given.wide(10);
+        sing(x, SO, 4, 6);
+        sing(x, SO, 4, 6);
+        Checks.due(Given.colours(x, sing(x, SO, 1, 1, SO, 1, 2, TURN, 1, 7, SO, 1, 3)), "12213");
+        Checks.due(Given.colours(x, sing(x, SO, 1, 1, SO, 1, 2, TURN, LARGEST, -1, SO, 1, 3)), "12213");
+        Checks.due(Given.colours(x, sing(x, SO, 1, 1, SO, 1, 2, AGAIN, 1, 7, SO, 1, 3)), "12123");
+        Checks.due(Given.colours(x, sing(x, SO, 8, 1, UPTO, 1, 2, SO, 1, 3)), "11111111223");
+        Checks.due(Given.colours(x, sing(x, SO, 8, 1, UPTO, LEAST, 2, SO, 1, 3)), "11111111223");
+        Checks.due(Given.colours(x, sing(x, SO, 1, 1, SING, 0, 7, SO, 1, 3)), "166663");
+        Checks.due(Given.colours(x, sing(x, SO, 8, 1, LIKE, 1, 7, SO, 1, 3)), "11111111003");
+    }
+
     @Says("-1 (also SING of a CHANT that isn't earlier)")
     static void p03_singOfAnEarlierOneAlone() {
         KnotCaller x = withChants(3);
